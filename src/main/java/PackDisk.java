@@ -32,7 +32,7 @@ public final class PackDisk {
 
     public PackDisk(int n) {
         sectors = new Sectors(n);
-        journal = new Journal(sectors);
+        journal = new Journal();
         draft = new Draft();
         gaps = new Gaps();
         openBytes = new int[MOST_BYTES];
@@ -132,7 +132,7 @@ public final class PackDisk {
         if (keep == journal.size()) {
             tearHead(tear);
         } else {
-            journal.undoBehind(keep, tear);
+            journal.undoBehind(keep, tear, sectors);
         }
         openLength = NONE;
         on = false;
@@ -397,7 +397,7 @@ public final class PackDisk {
             return NONE;
         }
         draft.seal();
-        journal.note(next);
+        journal.note(next, sectors);
         sectors.store(next, draft, SECTOR_SIZE);
         next++;
         return next - 1;
@@ -601,11 +601,12 @@ public final class PackDisk {
         }
 
         boolean hasCell(int sector, int i) {
-            return has(sector) && i >= 0 && i < SECTOR_SIZE;
+            return sector >= 0 && sector < count && i >= 0 && i < SECTOR_SIZE;
         }
 
         int cell(int sector, int i) {
-            return hasCell(sector, i) ? cells[sector * SECTOR_SIZE + i] : 0;
+            boolean there = sector >= 0 && sector < count && i >= 0 && i < SECTOR_SIZE;
+            return there ? cells[sector * SECTOR_SIZE + i] : 0;
         }
 
         int content(int sector, int i) {
@@ -697,18 +698,10 @@ public final class PackDisk {
 
     /** What was written and is not kept, in order, each with what stood there ahead of it. */
     private static final class Journal {
-        private final Sectors sectors;
-        private final int[] written;
-        private final int[] cells;
-        private final boolean[] lost;
+        private final int[] written = new int[MOST_SECTORS];
+        private final int[] cells = new int[MOST_SECTORS * SECTOR_SIZE];
+        private final boolean[] lost = new boolean[MOST_SECTORS];
         private int size;
-
-        Journal(Sectors sectors) {
-            this.sectors = sectors;
-            written = new int[MOST_SECTORS];
-            cells = new int[MOST_SECTORS * SECTOR_SIZE];
-            lost = new boolean[MOST_SECTORS];
-        }
 
         int size() {
             return size;
@@ -718,7 +711,7 @@ public final class PackDisk {
             size = 0;
         }
 
-        void note(int sector) {
+        void note(int sector, Sectors sectors) {
             if (size >= MOST_SECTORS) {
                 return;
             }
@@ -729,7 +722,7 @@ public final class PackDisk {
         }
 
         /** The first ones stay, the one behind them is torn, the others never were. */
-        void undoBehind(int keep, int tear) {
+        void undoBehind(int keep, int tear, Sectors sectors) {
             for (int k = size - 1; k > keep && k >= 0; k--) {
                 sectors.takeBack(written[k], 0, cells, k * SECTOR_SIZE, lost[k]);
             }
