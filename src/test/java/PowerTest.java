@@ -133,6 +133,17 @@ public final class PowerTest {
         Checks.due("the first that is not is torn", x.whole(4), 0);
         Checks.due("rows", x.start(), 1);
         Checks.due("NEXT", x.told(1), 4);
+        for (int keep = 0; keep <= 1; keep++) {
+            x = new Disk(20);
+            x.lay(1, 10, 50, 90, 130);
+            x.sync();
+            x.lay(2);
+            x.cut(keep, 1);
+            int[] sorts = {0, 1, 2, 2, 2, 2, 3, keep == 0 ? 0 : 3, 0};
+            for (int s = 1; s < sorts.length; s++) {
+                Checks.due("keep " + keep + ", fewer than ahead of the sync: whole(" + s + ")", x.whole(s), sorts[s]);
+            }
+        }
     }
 
     // ---- CUT

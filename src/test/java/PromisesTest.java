@@ -527,6 +527,21 @@ public final class PromisesTest {
         Checks.dueTold("ON again", x, 1, 5, 2, 1, 0, 0, 1, NONE, 2, 25);
     }
 
+    private static void toldOfLostOnes() {
+        Checks.sentence("16: 8 how many SECTORS are LOST");
+        for (int n : new int[] {8, 60}) {
+            Disk x = new Disk(n);
+            for (int s = 0; s < n; s++) {
+                Checks.due("lost of " + n, x.told(8), s);
+                x.lose(s);
+                x.lose(s);
+            }
+            Checks.due("all of " + n, x.told(8), n);
+            x.sync();
+            Checks.due("a head is written", x.told(8), n - 1);
+        }
+    }
+
     private static void toldWhileOff() {
         Checks.sentence("16: (1 to 3: while it is OFF as they were when it went.)");
         Disk x = new Disk(12);
@@ -571,6 +586,7 @@ public final class PromisesTest {
         wholeCall();
         listedCall();
         toldCall();
+        toldOfLostOnes();
         toldWhileOff();
         Checks.finish();
     }

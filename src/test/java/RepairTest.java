@@ -61,9 +61,24 @@ public final class RepairTest {
         dueNothing("three", hurt(BOTH, four, 2, 3, 4), 3);
         dueNothing("three", hurt(BOTH, four, 3, 4, 5), 3);
         dueNothing("four", hurt(BOTH, four, 2, 3, 4, 5), 4);
+        manyWays();
         dueAll("none is missing", hurt(BOTH, four), 0, four);
         dueAll("none is missing, no symbols", hurt(NEITHER, four), 0, four);
         dueAll("no blocks at all", hurt(BOTH, new int[0]), 0);
+    }
+
+    /** P and Q of 0s, which blocks of 0s would fit, but others too. */
+    private static void manyWays() {
+        for (int blocks = 1; blocks <= 4; blocks++) {
+            Disk x = new Disk(20);
+            x.put(2, Disk.sector(3, 1, 0, 24 * blocks, 3, blocks > 1 ? 4 : 0, blocks > 2 ? 5 : 0, blocks > 3 ? 6 : 0));
+            x.put(7, Disk.sector(4, 0, 0, 0));
+            x.put(8, Disk.sector(4, 0, 1, 0));
+            x.put(1, Disk.head(1, 9, 1));
+            x.restart();
+            Checks.due(blocks + " missing, P and Q of 0s: repaired", x.told(5), blocks <= 2 ? blocks : 0);
+            Checks.due(blocks + " missing, P and Q of 0s: missing", x.row(0, 6), blocks <= 2 ? 0 : blocks);
+        }
     }
 
     private static void bytesOfAllValues() {
