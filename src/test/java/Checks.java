@@ -22,6 +22,14 @@ final class Checks {
         }
     }
 
+    static void dueText(String what, String got, String want) {
+        made++;
+        if (!got.equals(want)) {
+            wrong++;
+            System.out.println("\"" + sentence + "\": " + what + " answered " + got + ", due is " + want);
+        }
+    }
+
     static void dueBytes(String what, Disk x, int sector, int[] want) {
         for (int i = 0; i < 32; i++) {
             due(what + ", octet(" + sector + ", " + i + ")", x.octet(sector, i), want[i]);
